@@ -806,7 +806,7 @@ public final class CarryShifts {
     }
 
     private static int binaryDigits(long v) {
-        return Long.SIZE - Long.numberOfLeadingZeros(v);
+        return 64 - Long.numberOfLeadingZeros(v);
     }
 
     private static long commonDivisor(long a, long b) {
@@ -1027,12 +1027,10 @@ public final class CarryShifts {
             leave(4);
         }
 
-        @Override
         int sumOf(int fed) {
             return fed;
         }
 
-        @Override
         int carriedOf(int sum) {
             return carry;
         }
@@ -1044,7 +1042,6 @@ public final class CarryShifts {
             leave(5);
         }
 
-        @Override
         int sumOf(int fed) {
             return fed + 1;
         }
@@ -1056,7 +1053,6 @@ public final class CarryShifts {
             leave(6);
         }
 
-        @Override
         int sumOf(int fed) {
             return carry - fed;
         }
@@ -1068,7 +1064,6 @@ public final class CarryShifts {
             leave(7);
         }
 
-        @Override
         int carriedOf(int sum) {
             return Math.min(1, sum >> 1);
         }
@@ -1080,7 +1075,6 @@ public final class CarryShifts {
             leave(8);
         }
 
-        @Override
         int advance() {
             int bit = state & 1;
             int moved = state >> 1;
