@@ -1,7 +1,7 @@
 /** The least fraction of a row, its law and its machine against searches through all there is. */
 public final class LeastTest {
     private final Due due = new Due();
-    private final CarryShifts x = new CarryShifts();
+    private CarryShifts x = new CarryShifts();
 
     public static void main(String[] args) {
         LeastTest t = new LeastTest();
@@ -12,6 +12,7 @@ public final class LeastTest {
     }
 
     private void row(long bits, int size) {
+        x = new CarryShifts();
         x.sheet(0, 1, size);
         for (int i = 0; i < size; i++) {
             x.put(0, i, (int) (bits >> i & 1));
@@ -76,9 +77,7 @@ public final class LeastTest {
     }
 
     private void checkMachine(int cells, int taps, int state, int carry) {
-        while (x.count(0) > 0) {
-            x.drop();
-        }
+        x = new CarryShifts();
         x.machine(0, cells, taps, state);
         x.set(0, 1, carry);
         long[] told = Model.toldBy(new Model.Machine(0, cells, taps, state, carry));

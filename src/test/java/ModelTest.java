@@ -3,7 +3,8 @@ import java.util.Random;
 
 /** Long runs of calls, drawn with a fixed seed, on the class and on the model: they answer alike. */
 public final class ModelTest {
-    private static final int RUNS = 1500, CALLS = 400, METHODS = 36;
+    // With what is compared at a run's end, and what its last draw asks, an object has fewer than 512 calls.
+    private static final int RUNS = 12000, MOST_CALLS = 260, METHODS = 36;
     private static final String[] CLAUSES = {
         "machine 0 3 5 3", "machine 2 6 33 60", "machine 5 4 9 7", "machine 3 2 3 1", "state 0 1", "state 1 40",
         "carry 0 -9", "carry 2 5", "carry 1 10", "taps 0 3", "taps 1 1", "step 0 7", "step 1 30", "step 2 31",
@@ -18,6 +19,7 @@ public final class ModelTest {
     private CarryShifts real;
     private Model model;
     private final StringBuilder story = new StringBuilder();
+    private int calls = 0;
 
     private ModelTest(long seed) {
         lot = new Random(seed);
@@ -26,19 +28,26 @@ public final class ModelTest {
     public static void main(String[] args) {
         ModelTest test = new ModelTest(20261118L);
         for (int run = 0; run < RUNS && !test.due.anyWrong(); run++) {
-            test.real = new CarryShifts();
-            test.model = new Model();
-            test.story.setLength(0);
-            for (int call = 0; call < CALLS && !test.due.anyWrong(); call++) {
-                test.callOne();
-                test.compareMachines();
-            }
-            test.compareSheets();
+            test.runOnce();
         }
         if (test.due.anyWrong()) {
             System.out.println(test.story);
         }
         test.due.end();
+    }
+
+    /** Runs are of all lengths, so that nothing goes wrong for a while only without being seen. */
+    private void runOnce() {
+        real = new CarryShifts();
+        model = new Model();
+        story.setLength(0);
+        calls = 0;
+        int end = upTo(1, MOST_CALLS);
+        while (calls < end && !due.anyWrong()) {
+            callOne();
+        }
+        compareMachines();
+        compareSheets();
     }
 
     private int upTo(int low, int high) {
@@ -64,7 +73,7 @@ public final class ModelTest {
     }
 
     private int machine() {
-        return near(0, Math.max(0, real.count(0) - 1));
+        return near(0, Math.max(0, model.count(0) - 1));
     }
 
     private int cells() {
@@ -72,6 +81,7 @@ public final class ModelTest {
     }
 
     private void is(String call, long got, long want) {
+        calls++;
         story.append(call).append(" = ").append(want).append('\n');
         due.is(call, got, want);
     }
@@ -136,7 +146,7 @@ public final class ModelTest {
                 break;
             }
             case 7: {
-                int s = sheet(), set = near(0, (1 << real.count(0)) - 1), n = near(0, 40), is = near(0, 1);
+                int s = sheet(), set = near(0, (1 << model.count(0)) - 1), n = near(0, 40), is = near(0, 1);
                 is(call("mix", s, set, n, is), real.mix(s, set, n, is), model.mix(s, set, n, is));
                 break;
             }
