@@ -8,9 +8,8 @@ abstract class Edges {
     static final long NO = Long.MIN_VALUE;
     static final int SHORTS = 0, INTS = 1;
     static final int MIN = Integer.MIN_VALUE, MAX = Integer.MAX_VALUE;
-    /** No number of a sheet, and no number of a machine, whatever there is. */
+    /** None of these is the number of a sheet. */
     static final int[] NO_SHEETS = {-1, 4, MIN, MAX};
-    static final int[] NO_MACHINES = {-1, 4, MIN, MAX};
 
     final Due due = new Due();
 
@@ -37,6 +36,13 @@ abstract class Edges {
         String left = Standing.of(asked);
         String due1 = Standing.of(made(ready));
         due.holds(edge + " changes nothing; is " + left + ", due is " + due1, left.equals(due1));
+    }
+
+    /** Whatever it answers on a furnished object, it changes nothing. */
+    final void asksOnly(String edge, Asking call) {
+        CarryShifts asked = made(Edges::furnish);
+        call.on(asked);
+        due.holds(edge, Standing.of(asked).equals(Standing.of(made(Edges::furnish))));
     }
 
     /** A refused call, on a furnished object. */

@@ -2,7 +2,9 @@
 public final class FractionEdgesTest extends Edges {
     public static void main(String[] args) {
         FractionEdgesTest t = new FractionEdgesTest();
+        t.asksChangeNothing();
         t.fractionShortest();
+        t.fractionBehindAnother();
         t.fractionOfLikeOnes();
         t.fractionLongest();
         t.fractionRefused();
@@ -28,6 +30,25 @@ public final class FractionEdgesTest extends Edges {
         t.due.end();
     }
 
+    private void asksChangeNothing() {
+        for (int sheet = 0; sheet < 3; sheet++) {
+            for (int what = 0; what < 4; what++) {
+                int s = sheet, w = what;
+                asksOnly("14 fraction changes nothing", x -> x.fraction(s, w));
+                asksOnly("18 linear changes nothing", x -> x.linear(s, w));
+                asksOnly("20 compare changes nothing", x -> x.compare(s));
+            }
+        }
+        for (int machine = 0; machine < 3; machine++) {
+            for (int what = 0; what < 2; what++) {
+                int m = machine, w = what;
+                asksOnly("15 told changes nothing", x -> x.told(m, w));
+                asksOnly("17 cycle changes nothing", x -> x.cycle(m, w));
+                asksOnly("19 twin changes nothing", x -> x.twin(m, 39, w));
+            }
+        }
+    }
+
     // ---- promise 14
 
     private void leastIs(String row, long p, long q, long size, int span) {
@@ -46,6 +67,27 @@ public final class FractionEdgesTest extends Edges {
         leastIs("10", 1, 1, 1, 1);
         leastIs("01", -2, 1, 2, 2);
         leastIs("11", -1, 1, 1, 1);
+    }
+
+    /** What was found for one row says nothing of the next. */
+    private void fractionBehindAnother() {
+        Making asked = x -> {
+            x.expand(0, 99, 125, 24);
+            x.fraction(0, 0);
+            x.linear(0, 0);
+            x.compare(0);
+            x.sheet(1, INTS, 0);
+            bits(x, 2, "0");
+        };
+        answers("14 p of the empty row behind another", -1, asked, x -> x.fraction(1, 0));
+        answers("14 q of the empty row behind another", 1, asked, x -> x.fraction(1, 1));
+        answers("14 SIZE of the empty row behind another", 1, asked, x -> x.fraction(1, 2));
+        answers("14 SPAN of the empty row behind another", 1, asked, x -> x.fraction(1, 3));
+        answers("14 p of '0' behind another", 0, asked, x -> x.fraction(2, 0));
+        answers("16 build from the empty row behind another", 1, asked, x -> x.build(1) + x.of(0, 3));
+        answers("18 L of the empty row behind another", 0, asked, x -> x.linear(1, 0));
+        answers("18 LAW of the empty row behind another", 0, asked, x -> x.linear(1, 1));
+        answers("20 compare the empty row behind another", 1, asked, x -> x.compare(1));
     }
 
     private void fractionOfLikeOnes() {

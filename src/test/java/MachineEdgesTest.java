@@ -22,6 +22,7 @@ public final class MachineEdgesTest extends Edges {
         t.setAnswersWhatWas();
         t.setMakesAnew();
         t.setRefused();
+        t.setFourth();
         t.ofMade();
         t.ofLinks();
         t.ofCarry();
@@ -260,9 +261,20 @@ public final class MachineEdgesTest extends Edges {
             refuses("4 set what " + what, REFUSED, x -> x.set(0, what, 1));
         }
         refusesWithoutMachines("4 set without machines", REFUSED, x -> x.set(0, 0, 0));
+    }
+
+    private void setFourth() {
         CarryShifts x = made(Edges::fill);
-        is("4 set of the fourth machine", x.set(3, 0, 2), 1);
+        int[] was = {1, 0, 3, 3};
+        int[] becomes = {2, -9, 2, 5};
+        int[] as = {3, 4, 2, 0};
+        for (int what = 0; what < 4; what++) {
+            is("4 set of the fourth machine, what " + what, x.set(3, what, becomes[what]), was[what]);
+            is("4 the fourth machine, what " + what, x.of(3, as[what]), becomes[what]);
+        }
         stands("4 others stay", x, 2, 1, 0);
+        is("4 others stay", x.of(2, 0), 2);
+        is("4 machines", x.count(0), 4);
     }
 
     // ---- promise 5

@@ -16,6 +16,7 @@ public final class ReplayEdgesTest extends Edges {
         t.replaysFirstOtherwise();
         t.replaysKinds();
         t.replaysCarries();
+        t.replaysIsThought();
         t.replaysRefused();
         t.searchSizes();
         t.searchFirst();
@@ -107,6 +108,8 @@ public final class ReplayEdgesTest extends Edges {
         for (int length : new int[] {0, -1, MIN, MAX}) {
             runsAre("0110", 0, length, 0);
             runsAre("0110", 1, length, 0);
+            runsAre("1001", 0, length, 0);
+            runsAre("1001", 1, length, 0);
             runsAre("0110", NONE, length, 2);
         }
     }
@@ -203,6 +206,15 @@ public final class ReplayEdgesTest extends Edges {
         stays("23 CARRIES, 0 alone", 1 << 9, one(0, 0, 7, "000000"), x -> x.replays(0, 3, 2));
         stays("23 CARRIES, the odd ones", 0b1010101010101010101, one(0, 0, 0, "01"), x -> x.replays(0, 3, 2));
         stays("23 CARRIES, the even ones", 0b0101010101010101010, one(0, 0, 0, "00"), x -> x.replays(0, 3, 2));
+    }
+
+    private void replaysIsThought() {
+        for (int m = 0; m < 3; m++) {
+            for (int what = 0; what < 3; what++) {
+                int machine = m, w = what;
+                asksOnly("23 machine " + m + " in thought, what " + what, x -> x.replays(machine, 1, w));
+            }
+        }
     }
 
     private void replaysRefused() {
@@ -311,6 +323,10 @@ public final class ReplayEdgesTest extends Edges {
         };
         stays("25 four steps alike", 3, last, x -> x.alike(0, 4));
         stays("25 the fifth step unlike", 1, last, x -> x.alike(0, 5));
+        for (int m = 0; m < 3; m++) {
+            int machine = m;
+            asksOnly("25 in thought, machine " + m, x -> x.alike(machine, 39));
+        }
         stays("25 one machine", 1, x -> x.machine(0, 1, 1, 0), x -> x.alike(0, 40));
     }
 
@@ -342,11 +358,17 @@ public final class ReplayEdgesTest extends Edges {
         drawnIs("SEED -1", ZEROS, -1, 1, 9);
         drawnIs("the greatest SEED", ZEROS, MAX, 1, 25);
         drawnIs("the least SEED", ZEROS, MIN, 1, 9);
+        drawnIs("the first of 40", ZEROS, 10, 1, 1);
+        drawnIs("bit 31", ZEROS, 21, 1, 32);
+        drawnIs("bit 32", ZEROS, 40, 1, 33);
+        drawnIs("the last of 40", ZEROS, 42, 1, 40);
         drawnIs("of 5 bits", "00000", 0, 1, 5);
         drawnIs("of 3 bits", "000", 0, 1, 1);
     }
 
     private void drawnCounts() {
+        asksOnly("26 drawn changes nothing", x -> x.drawn(0, 5, 7));
+        asksOnly("27 chance changes nothing", x -> x.chance(0, 5, 20, 7, 3, 0));
         drawnIs("not spoilt", "0".repeat(39) + "1", 0, 0, 40);
         drawnIs("one bit, not spoilt", "0", 7, 0, 0);
         drawnIs("one bit, once", "0", 7, 1, 1);

@@ -20,6 +20,9 @@ public final class TextEdgesTest extends Edges {
         t.textSigns();
         t.textFullTape();
         t.textFaultDoesNothing();
+        t.textBehindAFault();
+        t.textLateClauses();
+        t.textAnswersDoNotMatter();
         t.textLimits();
         t.textRefusedOnesAreNotDone();
         t.textInOrder();
@@ -205,6 +208,14 @@ public final class TextEdgesTest extends Edges {
             says("drop;" + word, -105);
             says("step " + word, -105);
         }
+        for (String word : new String[] {"machine", "state", "carry", "taps", "step", "drop"}) {
+            for (int i = 0; i < word.length(); i++) {
+                says(word.substring(0, i) + 'x' + word.substring(i + 1) + " 0 1 1 1", -100);
+            }
+        }
+        says("step 0 x", -107);
+        says("step 0 1 x", -109);
+        says("machine 0 1 1 x", -114);
         says("DROP", -100);
         says("droP", -100);
         says("a".repeat(60), -100);
@@ -290,6 +301,69 @@ public final class TextEdgesTest extends Edges {
             due.holds("29 '" + text + "' has a fault", x.text() <= -100);
             due.holds("29 '" + text + "' does nothing", Standing.of(x).equals(Standing.of(made(emptied))));
         }
+    }
+
+    /** A text is read by itself, whatever stood where the one ahead of it went wrong. */
+    private void textBehindAFault() {
+        String[] faulty = {"drop drop", "step 0 1 1", "drop;;", "step 0", "drop 7", "step 0 -"};
+        for (String text : faulty) {
+            CarryShifts x = made(Edges::furnish);
+            x.text();
+            feed(x, text);
+            due.holds("29 '" + text + "' has a fault", x.text() <= -100);
+            feed(x, "x");
+            is("29 a wrong word behind '" + text + "'", x.text(), -100);
+            feed(x, "step 0 x");
+            is("29 a wrong number behind '" + text + "'", x.text(), -107);
+            is("29 the empty tape behind '" + text + "'", x.text(), -100);
+            feed(x, "state 0 1;drop");
+            is("29 a right text behind '" + text + "'", x.text(), 2);
+        }
+    }
+
+    private void textLateClauses() {
+        CarryShifts x = made(Edges::furnish);
+        x.text();
+        feed(x, "drop;drop;drop;drop;drop;drop;drop;drop;machine 1 6 63 42");
+        is("29 a machine as the ninth clause", x.text(), 4);
+        int[] due1 = {1, 6, 63, 42};
+        for (int what = 0; what < 4; what++) {
+            is("29 a machine as the ninth clause, what " + what, x.of(0, what), due1[what]);
+        }
+        feed(x, "state0 1;state0 2;state0 3;carry0 1;carry0 2;carry0-9");
+        is("29 six clauses of two numbers", x.text(), 6);
+        stands("29 six clauses of two numbers", x, 0, 3, -9);
+        feed(x, "machine0 1 1 0;machine0 2 3 1;machine5 6 33 34;taps3 63");
+        is("29 three machines and TAPS of the fourth", x.text(), 4);
+        is("29 TAPS of the fourth", x.of(3, 2), 63);
+        is("29 STATE of the fourth", x.of(3, 3), 34);
+        feed(x, "drop;drop;drop;drop;drop;drop;drop;drop;drop;drop;carry 0 -9");
+        is("29 sixty bytes, the last clause refused", x.text(), 4);
+    }
+
+    /** Done is what is not refused, whatever it answers: 0, or a CARRY that looks like a refusal. */
+    private void textAnswersDoNotMatter() {
+        for (int carry = -9; carry <= 9; carry++) {
+            int was = carry;
+            answers("29 carry that was " + was, 1, x -> {
+                x.machine(0, 3, 5, 3);
+                x.set(0, 1, was);
+                feed(x, "carry 0 1");
+            }, x -> x.text());
+        }
+        answers("29 steps that tell 0s", 1, x -> {
+            x.machine(0, 1, 1, 0);
+            feed(x, "step 0 30");
+        }, x -> x.text());
+        answers("29 drop of the last one", 1, x -> {
+            x.machine(0, 1, 1, 0);
+            feed(x, "drop");
+        }, x -> x.text());
+        answers("29 STATE that was 0", 1, x -> {
+            x.machine(0, 1, 1, 0);
+            feed(x, "state 0 1");
+        }, x -> x.text());
+        answers("29 machine 0", 1, x -> feed(x, "machine 0 1 1 0"), x -> x.text());
     }
 
     private void textLimits() {
