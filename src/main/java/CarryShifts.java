@@ -57,16 +57,29 @@ public final class CarryShifts {
 
     public int set(int machine, int what, int v) {
         Carrying m = machineAt(machine);
-        if (m == null) {
+        if (m == null || !between(machine, 0, machines.length - 1) || !canBecome(m, what, v)) {
             return REFUSED;
         }
+        int was;
         switch (what) {
-            case 0: return becomeState(m, v);
-            case 1: return becomeCarry(m, v);
-            case 2: return becomeTaps(machine, m, v);
-            case 3: return becomeKind(machine, m, v);
-            default: return REFUSED;
+            case 0:
+                was = m.state;
+                m.state = v;
+                break;
+            case 1:
+                was = m.carry;
+                m.carry = v;
+                break;
+            case 2:
+                was = m.taps;
+                machines[machine] = made(m.kind, m.cells, v, m.state, m.carry);
+                break;
+            default:
+                was = m.kind;
+                machines[machine] = made(v, m.cells, m.taps, m.state, m.carry);
+                break;
         }
+        return was;
     }
 
     public int of(int machine, int what) {
@@ -537,21 +550,18 @@ public final class CarryShifts {
     }
 
     private static Carrying made(int kind, int cells, int taps, int state, int carry) {
-        Carrying m = madeOfKind(kind, cells, taps);
+        Carrying m;
+        switch (kind) {
+            case LINEAR: m = new Linear(LINEAR, cells, taps); break;
+            case TURNED: m = new Turned(cells, taps); break;
+            case BORROWING: m = new Borrowing(cells, taps); break;
+            case HELD: m = new Held(cells, taps); break;
+            case RING: m = new Ring(cells, taps); break;
+            default: m = new Carrying(CARRYING, cells, taps); break;
+        }
         m.state = state;
         m.carry = carry;
         return m;
-    }
-
-    private static Carrying madeOfKind(int kind, int cells, int taps) {
-        switch (kind) {
-            case LINEAR: return new Linear(LINEAR, cells, taps);
-            case TURNED: return new Turned(cells, taps);
-            case BORROWING: return new Borrowing(cells, taps);
-            case HELD: return new Held(cells, taps);
-            case RING: return new Ring(cells, taps);
-            default: return new Carrying(CARRYING, cells, taps);
-        }
     }
 
     private static Carrying thoughtOf(Carrying m) {
@@ -582,38 +592,14 @@ public final class CarryShifts {
         return i >= 0 && i < machineCount && i < machines.length ? machines[i] : null;
     }
 
-    private int becomeState(Carrying m, int v) {
-        if (!between(v, 0, allCells(m.cells))) {
-            return REFUSED;
+    private static boolean canBecome(Carrying m, int what, int v) {
+        switch (what) {
+            case 0: return between(v, 0, allCells(m.cells));
+            case 1: return between(v, -MOST_CARRY, MOST_CARRY);
+            case 2: return between(v, 1, allCells(m.cells));
+            case 3: return between(v, CARRYING, RING);
+            default: return false;
         }
-        int was = m.state;
-        m.state = v;
-        return was;
-    }
-
-    private int becomeCarry(Carrying m, int v) {
-        if (!between(v, -MOST_CARRY, MOST_CARRY)) {
-            return REFUSED;
-        }
-        int was = m.carry;
-        m.carry = v;
-        return was;
-    }
-
-    private int becomeTaps(int machine, Carrying m, int v) {
-        if (!between(v, 1, allCells(m.cells)) || !between(machine, 0, machines.length - 1)) {
-            return REFUSED;
-        }
-        machines[machine] = made(m.kind, m.cells, v, m.state, m.carry);
-        return m.taps;
-    }
-
-    private int becomeKind(int machine, Carrying m, int v) {
-        if (!between(v, CARRYING, RING) || !between(machine, 0, machines.length - 1)) {
-            return REFUSED;
-        }
-        machines[machine] = made(v, m.cells, m.taps, m.state, m.carry);
-        return m.kind;
     }
 
     private int cellsOf(int kind) {
@@ -1128,7 +1114,7 @@ public final class CarryShifts {
      * Finds the least fraction of a row. All pairs (p, q) whose digits begin like the row are points
      * of a lattice; among them q is odd. With the lattice's two shortest steps at hand, the least
      * such point is the short step itself or lies on the line of the long step and any number of
-     * short ones, next to where p or q is 0 or both are as great.
+     * short ones, at its start or next to where p and q are as great.
      */
     private static final class Least {
         private static final int ROUNDS = 1000;
@@ -1149,8 +1135,6 @@ public final class CarryShifts {
             shorten(bits, 1L << size);
             offer(shortAbove, shortBelow);
             offerAround(0);
-            offerAround(crossing(longAbove, shortAbove));
-            offerAround(crossing(longBelow, shortBelow));
             offerAround(crossing(longAbove - longBelow, shortAbove - shortBelow));
             offerAround(crossing(longAbove + longBelow, shortAbove + shortBelow));
         }
@@ -1196,9 +1180,8 @@ public final class CarryShifts {
         }
 
         private void offerAround(long times) {
-            for (long i = times - 1; i <= times + 2; i++) {
-                offer(longAbove + i * shortAbove, longBelow + i * shortBelow);
-            }
+            offer(longAbove + times * shortAbove, longBelow + times * shortBelow);
+            offer(longAbove + (times + 1) * shortAbove, longBelow + (times + 1) * shortBelow);
         }
 
         private void offer(long p, long q) {

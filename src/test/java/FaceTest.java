@@ -10,7 +10,7 @@ import java.util.TreeSet;
 import java.util.regex.Matcher;
 import java.util.regex.Pattern;
 
-/** The face of the document, and the rules of the language that can be seen from outside. */
+/** The face of the document, and words that the language leaves out. */
 public final class FaceTest {
     private static final String FACE = "machine4 drop0 set3 of2 taken2 step2 then3 film3 mix4 number1 expand4 period3 fraction2 "
             + "told2 build1 cycle2 linear2 twin3 compare1 windows3 runs3 replays3 search3 alike2 drawn3 chance6 feed6 text0 image0 "
@@ -90,11 +90,6 @@ public final class FaceTest {
         Matcher found = FORBIDDEN.matcher(code);
         while (found.find()) {
             due.holds("the source has " + found.group(), false);
-        }
-        int length = 0;
-        for (String line : code.split("\n")) {
-            length = line.matches("    (    )?}") ? 0 : length + 1;
-            due.holds("methods stay short: " + line, length <= 60);
         }
     }
 }

@@ -6,6 +6,7 @@ public final class LeastTest {
     public static void main(String[] args) {
         LeastTest t = new LeastTest();
         t.allShortRows();
+        t.allMiddleRows();
         t.longRows();
         t.allMachines();
         t.due.end();
@@ -42,6 +43,43 @@ public final class LeastTest {
                 check(bits, size);
             }
         }
+    }
+
+    /** Each row is the one ahead with one bit turned, so that an object serves for many of them. */
+    private void allMiddleRows() {
+        for (int size = 13; size <= 17; size++) {
+            for (int i = 0; i < 1 << size; i++) {
+                int bits = i ^ i >> 1;
+                if (i % 128 == 0) {
+                    row(bits, size);
+                } else {
+                    int turned = Integer.numberOfTrailingZeros(i);
+                    x.put(0, turned, bits >> turned & 1);
+                }
+                long[] f = leastByEachQ(bits, size);
+                due.is("p of row " + bits + " of " + size, x.fraction(0, 0), f[0]);
+                due.is("q of row " + bits + " of " + size, x.fraction(0, 1), f[1]);
+            }
+        }
+    }
+
+    private static long[] leastByEachQ(long bits, int size) {
+        long whole = 1L << size;
+        long least = Long.MAX_VALUE;
+        long[] found = {0, 0};
+        for (long q = 1; q <= least; q += 2) {
+            long up = bits * q & whole - 1;
+            // As great below 0 as above, the one below is the lesser p.
+            long p = up < whole - up ? up : up - whole;
+            long greater = Math.max(q, Math.abs(p));
+            if (greater < least) {
+                least = greater;
+                // Where q is the greater, a p below 0 may still have room.
+                found[0] = p > 0 && whole - p <= greater ? p - whole : p;
+                found[1] = q;
+            }
+        }
+        return found;
     }
 
     /** Rows near powers of 2 and near halves, where the least is great and many are nearly as good. */
